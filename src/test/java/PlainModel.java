@@ -104,12 +104,8 @@ final class PlainModel {
     }
 
     int select(int version, int rank) {
-        for (int key : map(version).keySet()) {
-            if (rank(version, key) == rank) {
-                return key;
-            }
-        }
-        throw new NoSuchElementException();
+        List<Integer> keys = new ArrayList<>(map(version).keySet());
+        return some(rank >= 0 && rank < keys.size() ? keys.get(rank) : null);
     }
 
     int near(int version, int key, boolean above) {

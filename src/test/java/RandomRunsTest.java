@@ -1,4 +1,9 @@
+import java.lang.reflect.InvocationTargetException;
+import java.lang.reflect.Method;
+import java.lang.reflect.Modifier;
 import java.util.Arrays;
+import java.util.HashMap;
+import java.util.Map;
 import java.util.Random;
 
 /**
@@ -6,7 +11,7 @@ import java.util.Random;
  * A throwing call that changed something shows in the calls behind it.
  */
 public final class RandomRunsTest {
-    private static final int RUNS = 600;
+    private static final int RUNS = 240;
     private static final int CALLS = 512;
     private static final String[] NAMES = {
         "put", "put", "put", "remove", "remove", "load", "cut", "merge", "snapshot", "snapshot", "release",
@@ -16,6 +21,8 @@ public final class RandomRunsTest {
     private static final int[] EDGES = {
         Integer.MIN_VALUE, Integer.MIN_VALUE + 1, -1, 0, 1, Integer.MAX_VALUE - 1, Integer.MAX_VALUE
     };
+
+    private static final Map<String, Method> METHODS = methodsByName(OrderedVersions.class, PlainModel.class);
 
     private final Random random;
     private final int spread;
@@ -52,8 +59,7 @@ public final class RandomRunsTest {
             case "remove": return new int[] {key()};
             case "load": return drawLoad();
             case "cut": return drawCut();
-            case "merge": case "size": return new int[] {version()};
-            case "release": case "restore": return new int[] {version()};
+            case "merge": case "release": case "restore": case "size": return new int[] {version()};
             case "get": case "rank": return new int[] {version(), key()};
             case "select": return new int[] {version(), random.nextInt(spread + 3) - 1};
             case "near": case "open": return new int[] {version(), key(), random.nextInt(2)};
@@ -97,59 +103,32 @@ public final class RandomRunsTest {
         return random.nextInt(4) == 0 ? new int[] {from, key()} : new int[] {from, from + random.nextInt(9) - 1};
     }
 
-    private static Object ask(OrderedVersions x, String name, int[] a) {
-        switch (name) {
-            case "put": return x.put(a[0], a[1]);
-            case "remove": return x.remove(a[0]);
-            case "load": return x.load(a[0], a[1], a[2], a[3], a[4]);
-            case "cut": return x.cut(a[0], a[1]);
-            case "merge": return x.merge(a[0]);
-            case "snapshot": return x.snapshot();
-            case "release": return x.release(a[0]);
-            case "restore": return x.restore(a[0]);
-            case "size": return x.size(a[0]);
-            case "get": return x.get(a[0], a[1]);
-            case "rank": return x.rank(a[0], a[1]);
-            case "select": return x.select(a[0], a[1]);
-            case "near": return x.near(a[0], a[1], a[2] == 1);
-            case "sum": return x.sum(a[0], a[1], a[2]);
-            case "greatest": return x.greatest(a[0], a[1], a[2]);
-            case "differs": return x.differs(a[0], a[1]);
-            case "firstDifference": return x.firstDifference(a[0], a[1]);
-            case "open": return x.open(a[0], a[1], a[2] == 1);
-            case "next": return x.next(a[0]);
-            case "skip": return x.skip(a[0], a[1]);
-            case "peek": return x.peek(a[0]);
-            case "close": return x.close(a[0]);
-            default: return x.astray();
+    /** The same call on either of the two, by its name; a flag is drawn as 0 or 1. */
+    private static Object ask(Object target, String name, int[] drawn) {
+        Method method = METHODS.get(target.getClass().getSimpleName() + "." + name);
+        Object[] arguments = new Object[drawn.length];
+        for (int i = 0; i < drawn.length; i++) {
+            boolean flag = method.getParameterTypes()[i] == boolean.class;
+            arguments[i] = flag ? (Object) (drawn[i] == 1) : (Object) drawn[i];
+        }
+        try {
+            return method.invoke(target, arguments);
+        } catch (InvocationTargetException e) {
+            throw (RuntimeException) e.getCause();
+        } catch (IllegalAccessException e) {
+            throw new AssertionError(e);
         }
     }
 
-    private static Object ask(PlainModel x, String name, int[] a) {
-        switch (name) {
-            case "put": return x.put(a[0], a[1]);
-            case "remove": return x.remove(a[0]);
-            case "load": return x.load(a[0], a[1], a[2], a[3], a[4]);
-            case "cut": return x.cut(a[0], a[1]);
-            case "merge": return x.merge(a[0]);
-            case "snapshot": return x.snapshot();
-            case "release": return x.release(a[0]);
-            case "restore": return x.restore(a[0]);
-            case "size": return x.size(a[0]);
-            case "get": return x.get(a[0], a[1]);
-            case "rank": return x.rank(a[0], a[1]);
-            case "select": return x.select(a[0], a[1]);
-            case "near": return x.near(a[0], a[1], a[2] == 1);
-            case "sum": return x.sum(a[0], a[1], a[2]);
-            case "greatest": return x.greatest(a[0], a[1], a[2]);
-            case "differs": return x.differs(a[0], a[1]);
-            case "firstDifference": return x.firstDifference(a[0], a[1]);
-            case "open": return x.open(a[0], a[1], a[2] == 1);
-            case "next": return x.next(a[0]);
-            case "skip": return x.skip(a[0], a[1]);
-            case "peek": return x.peek(a[0]);
-            case "close": return x.close(a[0]);
-            default: return x.astray();
+    private static Map<String, Method> methodsByName(Class<?>... owners) {
+        Map<String, Method> found = new HashMap<>();
+        for (Class<?> owner : owners) {
+            for (Method method : owner.getDeclaredMethods()) {
+                if (!Modifier.isPrivate(method.getModifiers())) {
+                    found.put(owner.getSimpleName() + "." + method.getName(), method);
+                }
+            }
         }
+        return found;
     }
 }
