@@ -42,7 +42,7 @@ public final class OrderedVersions {
             present.values[at] = value;
             return false;
         }
-        if (present.count == MOST_KEYS) {
+        if (present.count >= MOST_KEYS) {
             throw new UnsupportedOperationException();
         }
         present.insertAt(at, key, value);

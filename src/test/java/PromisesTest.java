@@ -471,6 +471,10 @@ public final class PromisesTest {
         dueThrow("18 alike", () -> x.firstDifference(0, 1), NO_ELEMENT);
         dueThrow("18 with itself", () -> x.firstDifference(1, 1), NO_ELEMENT);
         dueThrow("18 nothing with nothing", () -> new OrderedVersions().firstDifference(0, 0), NO_ELEMENT);
+        x.remove(20);
+        due("18 one less at the end", x.firstDifference(0, 1), 20);
+        due("18 one less at the end, the other way", x.firstDifference(1, 0), 20);
+        x.restore(1);
         x.put(30, 0);
         due("18 one more at the end", x.firstDifference(0, 1), 30);
         due("18 the other way", x.firstDifference(1, 0), 30);
@@ -487,6 +491,9 @@ public final class PromisesTest {
         x.load(0, 1, 0, 0, 0);
         due("18 with nothing", x.firstDifference(0, 1), -10);
         due("18 nothing with it", x.firstDifference(1, 0), -10);
+        OrderedVersions y = full();
+        y.snapshot();
+        dueThrow("18 full and alike", () -> y.firstDifference(0, 1), NO_ELEMENT);
         dueThrow("18 no first", () -> x.firstDifference(2, 0), NO_SUCH_NUMBER);
         dueThrow("18 no second", () -> x.firstDifference(0, 2), NO_SUCH_NUMBER);
         dueThrow("18 neither, though the same", () -> x.firstDifference(2, 2), NO_SUCH_NUMBER);
