@@ -104,8 +104,8 @@ final class PlainModel {
     }
 
     int select(int version, int rank) {
-        List<Integer> keys = new ArrayList<>(map(version).keySet());
-        return some(rank >= 0 && rank < keys.size() ? keys.get(rank) : null);
+        TreeMap<Integer, Integer> map = map(version);
+        return some(rank < 0 ? null : map.keySet().stream().skip(rank).findFirst().orElse(null));
     }
 
     int near(int version, int key, boolean above) {
@@ -184,6 +184,14 @@ final class PlainModel {
 
     int astray() {
         return 0;
+    }
+
+    int countSnapshots() {
+        return versions.size() - 1;
+    }
+
+    int countCursors() {
+        return walks.size();
     }
 
     private TreeMap<Integer, Integer> present() {

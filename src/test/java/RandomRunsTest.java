@@ -1,9 +1,4 @@
-import java.lang.reflect.InvocationTargetException;
-import java.lang.reflect.Method;
-import java.lang.reflect.Modifier;
 import java.util.Arrays;
-import java.util.HashMap;
-import java.util.Map;
 import java.util.Random;
 
 /**
@@ -21,8 +16,6 @@ public final class RandomRunsTest {
     private static final int[] EDGES = {
         Integer.MIN_VALUE, Integer.MIN_VALUE + 1, -1, 0, 1, Integer.MAX_VALUE - 1, Integer.MAX_VALUE
     };
-
-    private static final Map<String, Method> METHODS = methodsByName(OrderedVersions.class, PlainModel.class);
 
     private final Random random;
     private final int spread;
@@ -49,7 +42,7 @@ public final class RandomRunsTest {
             String name = NAMES[random.nextInt(NAMES.length)];
             int[] a = draw(name);
             String what = "run " + seed + ", call " + call + ": " + name + Arrays.toString(a);
-            checks.due(what, Checks.outcome(() -> ask(real, name, a)), Checks.outcome(() -> ask(model, name, a)));
+            checks.due(what, Calls.outcome(real, name, a), Calls.outcome(model, name, a));
         }
     }
 
@@ -101,34 +94,5 @@ public final class RandomRunsTest {
     private int[] drawCut() {
         int from = key();
         return random.nextInt(4) == 0 ? new int[] {from, key()} : new int[] {from, from + random.nextInt(9) - 1};
-    }
-
-    /** The same call on either of the two, by its name; a flag is drawn as 0 or 1. */
-    private static Object ask(Object target, String name, int[] drawn) {
-        Method method = METHODS.get(target.getClass().getSimpleName() + "." + name);
-        Object[] arguments = new Object[drawn.length];
-        for (int i = 0; i < drawn.length; i++) {
-            boolean flag = method.getParameterTypes()[i] == boolean.class;
-            arguments[i] = flag ? (Object) (drawn[i] == 1) : (Object) drawn[i];
-        }
-        try {
-            return method.invoke(target, arguments);
-        } catch (InvocationTargetException e) {
-            throw (RuntimeException) e.getCause();
-        } catch (IllegalAccessException e) {
-            throw new AssertionError(e);
-        }
-    }
-
-    private static Map<String, Method> methodsByName(Class<?>... owners) {
-        Map<String, Method> found = new HashMap<>();
-        for (Class<?> owner : owners) {
-            for (Method method : owner.getDeclaredMethods()) {
-                if (!Modifier.isPrivate(method.getModifiers())) {
-                    found.put(owner.getSimpleName() + "." + method.getName(), method);
-                }
-            }
-        }
-        return found;
     }
 }
